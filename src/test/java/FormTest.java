@@ -13,6 +13,10 @@ public final class FormTest {
         x.read(1, 1, 2);
         x.fit(1, 3);
         Check.due("not below is high", 4, () -> x.form(1, 8));
+        x.read(3, 8, 9);
+        x.fit(3, 2);
+        Check.due("a spring of an eighth", 0.125, () -> x.back(3, 0));
+        Check.due("neither 39 nor 41 times", 88.88888888895963, () -> x.form(3, 100));
         Check.due("the other kinds stay", 80.00000000001819, () -> x.form(0, 100));
         for (int kind : Check.NO_KINDS) {
             Check.dueThrow("form of kind " + kind, Check.INDEX, () -> x.form(kind, 1));

@@ -2,6 +2,7 @@
 public final class LengthTest {
     public static void main(String[] args) {
         oneByOne();
+        radiusOfOne();
         summedFromTheFirstOn();
         wrongNumbers();
         Check.end();
@@ -18,6 +19,14 @@ public final class LengthTest {
         Check.due("without a thickness", 30, () -> x.length(false, 0));
         Check.due("twice the radius, inside", 10, () -> x.length(false, 10));
         Check.due("twice the radius, outside", 50, () -> x.length(true, 10));
+    }
+
+    private static void radiusOfOne() {
+        SteamBends x = new SteamBends();
+        x.piece(6, 1);
+        Check.due("inside", 3, () -> x.length(false, 1));
+        Check.due("outside", 12, () -> x.length(true, 2));
+        Check.dueThrow("above twice the first piece's", Check.ARGUMENT, () -> x.length(true, Math.nextUp(2.0)));
     }
 
     private static void summedFromTheFirstOn() {

@@ -16,6 +16,9 @@ public final class RestTest {
         Check.due("most of all", 0.00573550787817112, () -> x.rest());
         x.kerfs(57.29577951308232, 10, 8, 1);
         Check.due("nothing is above", 0, () -> x.rest());
+        x.kerfs(1, 1, 0.875, 100);
+        Check.due("one kerf", 45835.62361046586, () -> x.rest());
+        x.kerfs(28.64788975654116, 10, 8, 1);
         Check.dueThrow("refused kerfs", Check.ARGUMENT, () -> x.kerfs(90, 20, 20, 2));
         Check.due("a rest of 0 is one", 0, () -> x.rest());
         Check.end();
