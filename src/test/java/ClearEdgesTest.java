@@ -47,12 +47,22 @@ public final class ClearEdgesTest {
             twin.clear();
             Twins.same("cleared, " + past, cleared, twin);
         }
-        SteamBends x = Twins.Past.USED.begin();
-        SteamBends untouched = Twins.Past.USED.begin();
+        for (Twins.Past past : Twins.ANY) {
+            SteamBends x = past.begin();
+            x.clear();
+            past.tellPieces(x);
+            Twins.same("cleared and told again, " + past, x, past.begin());
+        }
+        SteamBends x = new SteamBends();
+        for (int i = 0; i < 4; i++) {
+            x.read(i, 8, 12);
+            x.fit(i, 3);
+        }
         x.clear();
-        x.piece(10, 0);
-        x.piece(20, 200);
-        x.piece(7.5, 150);
-        Twins.same("cleared and told again", x, untouched);
+        for (int i = 0; i < 4; i++) {
+            int kind = i;
+            Check.due("spring stays", 0.5, () -> x.back(kind, 0));
+            Check.due("step stays", 0.0625, () -> x.back(kind, 1));
+        }
     }
 }

@@ -61,9 +61,11 @@ final class Edges {
     static void refusedWhole(String name, int least, int most, Class<? extends RuntimeException> want,
             Twins.Past[] pasts, WithWhole call) {
         // The far ones would come back into the range if they were added to, doubled or cut to fewer bits.
+        int inside = most > least ? least + 1 : least;
         int[] numbers = {
             least - 1, least - 2, most + 1, most + 2, Integer.MIN_VALUE, Integer.MIN_VALUE + 1,
-            Integer.MAX_VALUE, Integer.MAX_VALUE - 1, 1 << 30, 1 << 16, 1 << 24, -most - 1};
+            Integer.MAX_VALUE, Integer.MAX_VALUE - 1, -most - 1, 1 << 16, 1 << 24, 1 << 30,
+            inside + (1 << 8), inside + (1 << 16), inside + (1 << 24), inside + (1 << 30), inside + (1 << 31)};
         for (int number : numbers) {
             if (number < least || number > most) {
                 Twins.refused(name + " " + number, want, pasts, x -> call.of(x, number));

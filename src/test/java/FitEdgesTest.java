@@ -111,6 +111,17 @@ public final class FitEdgesTest {
         Check.due("round 41", 1, () -> x.fit(3, 1));
         Check.due("more was taken", spring + step, () -> x.back(3, 0));
         Check.due("the step stays", step, () -> x.back(3, 1));
+        // In round 40 of these both are less, and s - h is even the least: the first is taken.
+        SteamBends y = new SteamBends();
+        y.read(2, 6, 13.25);
+        y.read(2, 20, 29.5);
+        y.read(2, 16, 20.75);
+        y.read(2, 6, 7.25);
+        y.fit(2, 39);
+        Check.due("spring before", 0.4354395605623722, () -> y.back(2, 0));
+        Check.due("step before", step, () -> y.back(2, 1));
+        Check.due("round 40", 1, () -> y.fit(2, 1));
+        Check.due("more was taken", 0.4354395605623722 + step, () -> y.back(2, 0));
     }
 
     // "(a KEPT round), and h stays; else h becomes h / 2"

@@ -73,6 +73,16 @@ public final class KerfsEdgesTest {
                 Check.due("a rest of a bit", count * closes - below, () -> x.rest());
             }
         }
+        // Divided first, then times 57.29..: in another order this ANGLE would be another.
+        double lost = 0.2 / (3.7 - 0.3) * 57.29577951308232;
+        for (int i = 1; i <= 100; i++) {
+            int count = i;
+            double angle = count * lost;
+            SteamBends x = new SteamBends();
+            Check.due("just " + count, count, () -> x.kerfs(angle, 3.7, 0.3, 0.2));
+            Check.due("no rest", 0, () -> x.rest());
+            Check.due("a bit more than " + count, count + 1, () -> x.kerfs(Math.nextUp(angle), 3.7, 0.3, 0.2));
+        }
         SteamBends x = new SteamBends();
         Check.due("1 for the least angle", 1, () -> x.kerfs(1, 1, Math.nextDown(1.0), 100));
         Check.due("1 for the most", 1, () -> x.kerfs(360, 1, Math.nextDown(1.0), 100));

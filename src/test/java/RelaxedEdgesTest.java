@@ -42,6 +42,12 @@ public final class RelaxedEdgesTest {
             int days = i;
             Check.due(days + " days", 1 + 0.25 * (1 - 1 / (1 + days * 0.125)), () -> x.relaxed(1, days));
         }
+        for (int i = 0; i <= 10000; i++) {
+            int days = i;
+            double d = days;
+            SteamBends y = new SteamBends();
+            Check.due(days + " days", 1 + 0.25 * (1 - 1 / (1 + d / 8)), () -> y.relaxed(1, days));
+        }
         Check.due("8 days: half of it", 1.125, () -> x.relaxed(1, 8));
         Check.due("24 days: three quarters", 1.1875, () -> x.relaxed(1, 24));
     }

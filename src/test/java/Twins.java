@@ -3,7 +3,8 @@ import java.util.List;
 
 /**
  * Pairs of objects with the same past, one of which is asked a call more. If that call should
- * change nothing, all later calls must answer the same for both.
+ * change nothing, all later calls must answer the same for both. A past, the call (asked twice)
+ * and all later calls are fewer than 512 together, since nothing is promised behind these.
  */
 final class Twins {
     interface Ask {
@@ -26,7 +27,19 @@ final class Twins {
                 case FULL -> fill(x);
                 default -> { }
             }
+            tellPieces(x);
             return x;
+        }
+
+        void tellPieces(SteamBends x) {
+            if (this == USED) {
+                x.piece(10, 0);
+                x.piece(20, 200);
+                x.piece(7.5, 150);
+            }
+            for (int i = 0; this == FULL && i < 12; i++) {
+                x.piece(i + 0.5, i % 4 == 0 ? 0 : 300 - i);
+            }
         }
     }
 
@@ -88,9 +101,6 @@ final class Twins {
         x.fit(0, 5);
         x.read(1, 7, 7.5);
         x.fit(2, 1);
-        x.piece(10, 0);
-        x.piece(20, 200);
-        x.piece(7.5, 150);
         x.kerfs(90, 20, 3, 2);
     }
 
@@ -103,9 +113,6 @@ final class Twins {
                 x.read(kind, 3 * i, 3.5 * i + kind);
             }
             x.fit(kind, 3 + kind);
-        }
-        for (int i = 0; i < 12; i++) {
-            x.piece(i + 0.5, i % 4 == 0 ? 0 : 300 - i);
         }
         x.kerfs(180, 25, 2.5, 1.2);
     }
